@@ -102,7 +102,9 @@ public final class FaceTest {
         }
         int makings = code.split("\\bnew\\b").length - 1;
         int constructors = 0;
-        Matcher inConstructors = Pattern.compile("(?m)^ {4}(?: {4})?(?:public )?(EachLendsHisFace|Town|Telling)\\(.*\\) \\{$(?s)(.*?)^ {4}(?: {4})?\\}$").matcher(code);
+        String head = "(?m)^ {4}(?: {4})?(?:public )?(EachLendsHisFace|Town|Telling)\\(.*\\) \\{$";
+        String body = "(?s)(.*?)^ {4}(?: {4})?\\}$";
+        Matcher inConstructors = Pattern.compile(head + body).matcher(code);
         while (inConstructors.find()) {
             constructors += inConstructors.group(2).split("\\bnew\\b").length - 1;
         }

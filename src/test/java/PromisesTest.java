@@ -46,6 +46,7 @@ public final class PromisesTest {
         townComes();
         townIsBroken();
         townIsNotAsItMustBe();
+        fullTown();
         person();
         face();
         worth();
@@ -187,6 +188,41 @@ public final class PromisesTest {
         due("up to 999", tell(x, "m39;"), 1);
         due("one lender twice", tell(x, "l01;m01;"), -2004);
         due("he has it still", x.person(0, 3), 0);
+    }
+
+    /** With 8 people every row is full: nothing may look beyond its end. */
+    private static void fullTown() {
+        promise = 1;
+        EachLendsHisFace x = townOf("pm0;".repeat(7) + "pp0;");
+        for (int i = 0; i < 16; i++) {
+            x.row(0);
+        }
+        due("judge()", x.judge(), 8);
+        due("worth(7)", x.worth(7), 50);
+        due("deceived(7, 1)", x.deceived(7, 1), 0);
+        due("twins(0)", x.twins(0), 28);
+        due("lend(0, 6, 0)", x.lend(0, 6, 0), 7);
+        due("take(7, 6)", x.take(7, 6), -9);
+        due("keep(6)", x.keep(6), -9);
+        due("lot(0)", x.lot(0), 0);
+        due("lot(1)", x.lot(1), 4 * 50 + 3 * (50 - 36) + 62);
+        due("fewest(0, 99, 0)", x.fewest(0, 99, 0), -9);
+        due("two(6, 7, 6)", x.two(6, 7, 6), 10);
+        due("who(7)", x.who(7), 255);
+        due("first(0)", x.first(0), 0);
+        due("first(2)", x.first(2), 0);
+        x.lends(7, 0);
+        due("widow(7, 1)", x.widow(7, 1), -9);
+        due("wearer of none", x.face(0, 3), -9);
+        due("keep(6) of the last", x.keep(6), 7);
+        due("chained(0)", x.chained(0), 1);
+        due("chained(1)", x.chained(1), 128);
+        due("chained(2)", x.chained(2), 254);
+        due("count(5)", x.count(5), 128);
+        due("first(2) with one lent", x.first(2), 12);
+        due("famous(0)", x.famous(0), 0);
+        due("lots(20, 5, 1)", x.lots(20, 5, 1) < FAR ? 1 : 0, 1);
+        due("months(60)", x.months(60), 0);
     }
 
     private static void person() {
@@ -559,6 +595,8 @@ public final class PromisesTest {
         promise = 22;
         EachLendsHisFace x = townOf("pp0;pp0;pp0;pp0;pp0;l30;l12;");
         due("chained", x.chained(0), 2);
+        due("the first in a plain one", townOf("pp0;pp0;l01;").chained(0), 1);
+        due("the first in another one's", townOf("pp0;pp0;l10;").chained(0), 1);
         due("plain", x.chained(1), 8 + 2);
         due("seen", x.chained(2), 8 + 2 + 16);
         due("-2", x.chained(3), -2);
@@ -583,6 +621,12 @@ public final class PromisesTest {
         x = townOf("pm0;f000;");
         x.becomes(0, 1, 60);
         due("below 0", x.lot(1), -72);
+        x = townOf("pp0;pp0;pm0;pk0;");
+        due("of several the least", x.lot(0), 0);
+        due("a keeper in a murderer's face", x.lot(1), 212);
+        x = townOf("pp0;pm0;pk0;pm0;pd0;pb9;pp0;");
+        due("the second of each pair lends", x.lot(0), 7);
+        due("to the first of his own pair", x.lot(1), 350 + 12 + 0 + 12 + 12);
     }
 
     private static void fewest() {
@@ -598,6 +642,10 @@ public final class PromisesTest {
         // The first lending by lenders that brings face 2 to 50: the murderer's, to the beggar.
         due("another one's lending", x.fewest(2, 50, 1), 0);
         due("the beggar's own", x.fewest(2, 51, 1), 2);
+        due("v 0", x.fewest(0, 0, 0), 0);
+        x.turn(0, 0, 0);
+        x.turn(1, 2, 0);
+        due("to the least of the others", x.fewest(1, 62, 1), 1);
         due("-1", x.fewest(4, -1, 2), -1);
         due("-4", x.fewest(0, -1, 2), -4);
         due("-6", x.fewest(0, 100, 2), -6);
@@ -719,6 +767,8 @@ public final class PromisesTest {
         EachLendsHisFace x = new EachLendsHisFace();
         due("nobody", x.mean(0), 0);
         due("nobody, below", x.mean(1), 1);
+        due("one alone", townOf("pp0;f051;").mean(0), 51);
+        due("one alone, below", townOf("pp0;f051;").mean(1), 1);
         tell(x, "pp0;pp0;pp0;f051;");
         due("above", x.mean(0), 151);
         due("below", x.mean(1), 3);
@@ -782,9 +832,12 @@ public final class PromisesTest {
         EachLendsHisFace x = townOf("pp0;pp0;pp0;");
         x.becomes(1, 1, 7);
         due("no row", x.judge(), -9);
+        rowOf(x, 1, 1, 1);
         rowOf(x, 0, 7);
-        due("all so", x.judge(), -9);
+        due("all so that is told", x.judge(), -9);
         due("the row has none then", x.count(6), 0);
+        rowOf(x, 1, 7);
+        due("the first of all", x.judge(), 0);
         rowOf(x, 0, 6, 5);
         due("the first that is not so", x.judge(), 1);
         due("the row has none then, too", x.count(6), 0);
@@ -815,6 +868,7 @@ public final class PromisesTest {
         due("worths", x.lots(5, 7, 0), 1446);
         due("scars", x.lots(5, 7, 1), 36);
         due("nothing goes by", x.count(1) + x.count(2), 0);
+        due("one town", x.lots(1, 7, 0), 300);
         x = townOf("pm0;");
         due("one alone", x.lots(20, Integer.MIN_VALUE, 0), 20 * (50 - 18));
         due("his scars", x.lots(20, Integer.MAX_VALUE, 1), 20 * 6);
