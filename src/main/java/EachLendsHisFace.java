@@ -969,8 +969,9 @@ public final class EachLendsHisFace {
         private void wearForAMonth(int person) {
             int face = worn[person];
             if (face != PLAIN) {
-                fame[face] = withinMarks(fame[face] + changeOfFame(person, face));
-                scars[face] = withinMarks(scars[face] + kinds[kind[person]].scarsMore(figure[person]));
+                Person his = kinds[kind[person]];
+                fame[face] = withinMarks(fame[face] + his.fameChange(figure[person], knowersOf(face)));
+                scars[face] = withinMarks(scars[face] + his.scarsMore(figure[person]));
             }
         }
 
