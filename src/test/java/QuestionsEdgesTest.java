@@ -7,6 +7,17 @@ public final class QuestionsEdgesTest {
     private record Question(String name, Edges.Call call) {
     }
 
+    /** In the town of thought(), where the third has lent to the second. */
+    private static final List<Question> ABOUT_NOW = List.of(
+        asks("deceived(1, 0)", x -> x.deceived(1, 0)), asks("deceived(4, 1)", x -> x.deceived(4, 1)),
+        asks("famous(0)", x -> x.famous(0)), asks("famous(1)", x -> x.famous(1)), asks("chained(0)", x -> x.chained(0)),
+        asks("chained(1)", x -> x.chained(1)), asks("chained(2)", x -> x.chained(2)), asks("meets(2, 1)", x -> x.meets(2, 1)),
+        asks("widow(0, 2)", x -> x.widow(0, 2)), asks("twins(0)", x -> x.twins(0)), asks("twins(1)", x -> x.twins(1)),
+        asks("mean(0)", x -> x.mean(0)), asks("who(2)", x -> x.who(2)), asks("whatIs(2, 0)", x -> x.whatIs(2, 0)),
+        asks("whatIs(1, 0)", x -> x.whatIs(1, 0)), asks("lend(1, 5, 0)", x -> x.lend(1, 5, 0)),
+        asks("take(2, 5)", x -> x.take(2, 5)), asks("fewest(3, 55, 1)", x -> x.fewest(3, 55, 1)),
+        asks("worth(2)", x -> x.worth(2)), asks("lot(0)", x -> x.lot(0)));
+
     public static void main(String[] args) {
         thought();
         first();
@@ -61,6 +72,33 @@ public final class QuestionsEdgesTest {
         });
     }
 
+    /** What was thought before is in no later answer: each question about now is asked right behind it. */
+    private static void leavesNoTrace(String letters, Question thought) {
+        edge("In mind, n MONTHS on (0 .. 60)", "behind " + thought.name() + " now is now", () -> {
+            EachLendsHisFace fresh = withRow(letters, 50, 48);
+            EachLendsHisFace x = withRow(letters, 50, 48);
+            for (Question question : ABOUT_NOW) {
+                thought.call().of(x);
+                due(question.name(), question.call().of(x), question.call().of(fresh));
+            }
+        });
+    }
+
+    /** Behind on() a question is answered as at the image, though more had come and more was known since. */
+    private static void asThen(String letters, Question question, String when) {
+        edge("ON from it all is as then.", question.name() + " " + when, () -> {
+            EachLendsHisFace fresh = withRow(letters, 50, 48);
+            for (String since : new String[] {"pp0;pm9;k01;k62;m13;l67;", "pk0;pk0;"}) {
+                EachLendsHisFace x = townOf(letters);
+                x.image();
+                Edges.tell(x, since);
+                x.on();
+                Edges.withRow(x, 50, 48);
+                due(question.name(), question.call().of(x), question.call().of(fresh));
+            }
+        });
+    }
+
     private static void passes999(String letters, Question question) {
         edge("(In thought MONTH may pass 999.)", question.name(), () -> {
             EachLendsHisFace young = withRow(letters, 50, 48);
@@ -74,7 +112,7 @@ public final class QuestionsEdgesTest {
     }
 
     private static void thought() {
-        String town = "pp2;pb7;pm4;pk0;pd8;pg1;k04;k15;l21;";
+        String town = "pp2;pb7;pm4;pk0;pd8;pg1;k04;k15;k02;l21;";
         List<Question> questions = List.of(
             asks("faceThen(2, 60, 0)", x -> x.faceThen(2, 60, 0)), asks("wornThen(1, 60)", x -> x.wornThen(1, 60)),
             asks("first(0)", x -> x.first(0)), asks("first(1)", x -> x.first(1)), asks("first(2)", x -> x.first(2)),
@@ -86,6 +124,11 @@ public final class QuestionsEdgesTest {
         for (Question question : questions) {
             passes999(town, question);
             changesNothing(town, question);
+            leavesNoTrace(town, question);
+            asThen(town, question, "in thought");
+        }
+        for (Question question : ABOUT_NOW) {
+            asThen(town, question, "now");
         }
         String mind = "In mind, n MONTHS on (0 .. 60): FAME of a FACE, SCARS, LENT; who WEARS a FACE (-9 nobody)";
         edge(mind, "0 months: as it is", () -> {
@@ -275,7 +318,11 @@ public final class QuestionsEdgesTest {
             due("all alike", townOf("pk0;pk0;pk0;").famous(0), 0);
             due("two alike", townOf("pk0;pk0;pk0;f049;").famous(0), 1);
         });
-        edge(words, "one more is most", () -> due("famous(0)", townOf("pk0;pk0;pk0;f251;").famous(0), 2));
+        edge(words, "one more is most", () -> {
+            due("the last", townOf("pk0;pk0;pk0;f251;").famous(0), 2);
+            due("the first", townOf("pk0;pk0;pk0;f051;").famous(0), 0);
+            due("each less than the one before", townOf("pk0;pk0;pk0;f149;f248;").famous(0), 0);
+        });
         edge(words, "all at 0, all at 99", () -> {
             due("0", townOf("pk0;pk0;f000;f100;").famous(0), 0);
             due("99", townOf("pk0;pk0;f099;f199;").famous(0), 0);
@@ -405,6 +452,8 @@ public final class QuestionsEdgesTest {
             due("nobody", new EachLendsHisFace().chained(0), 0);
             due("all at home", townOf(EIGHT).chained(0), 0);
             due("four", townOf(EIGHT + "l01;l32;l45;l76;").chained(0), 4);
+            due("the first, in another one's", townOf(EIGHT + "l70;").chained(0), 1);
+            due("the last, in another one's", townOf(EIGHT + "l07;").chained(0), 1);
         });
         edge("PLAIN: who WEAR PLAIN ones (bits)", "none, and four of eight", () -> {
             due("nobody", new EachLendsHisFace().chained(1), 0);
@@ -519,6 +568,7 @@ public final class QuestionsEdgesTest {
         });
         edge(lender, "the last of eight", () ->
             due("lender", townOf("pp0;" + "pk0;".repeat(7)).fewest(7, 51, 1), 7));
+        edge(lender, "none of eight", () -> due("lender", townOf(EIGHT).fewest(7, 51, 1), -9));
     }
 
     private static void who() {
@@ -544,6 +594,14 @@ public final class QuestionsEdgesTest {
             due("right", withRow("pk0;pm0;", row).who(0), 2);
             row[15]++;
             due("wrong", withRow("pk0;pm0;", row).who(0), 0);
+        });
+        edge(words, "by those who know that face", () -> {
+            // Three know the face of 0, only its owner the face of 1.
+            String town = "pk0;pd0;pg0;k10;k20;";
+            due("a dentist", withRow(town, 50, 53, 56).who(0), 2);
+            due("a girl", withRow(town, 50, 51, 52).who(0), 4);
+            due("a dentist in his own", withRow(town, 50, 51, 52).who(1), 2);
+            due("a girl in the dentist's", withRow(town, 50, 49, 48).who(1), 4);
         });
         edge(words, "from now on: a lent face does not come back", () -> {
             int[] row = new int[16];
@@ -576,6 +634,13 @@ public final class QuestionsEdgesTest {
         edge(words, "somebody else", () -> due("widow", townOf("pk0;pk0;pk0;k01;l12;").widow(0, 1), 2));
         edge(words, "the face is not known", () -> due("widow", townOf("pk0;pk0;pk0;k02;l12;").widow(0, 1), -9));
         edge(words, "nobody wears it", () -> due("widow", townOf("pk0;pk0;pk0;k02;l12;").widow(0, 2), -9));
+        edge(words, "known since, and not any more", () -> {
+            EachLendsHisFace x = townOf("pk0;pk0;pk0;l12;");
+            x.learns(0, 1);
+            due("known", x.widow(0, 1), 2);
+            x.learns(0, 1);
+            due("not any more", x.widow(0, 1), -9);
+        });
         edge(words, "the first himself wears it", () -> due("widow", townOf("pk0;pk0;k01;l10;").widow(0, 1), -9));
         edge(words, "the first wears a plain one", () ->
             due("widow", townOf("pk0;pk0;pk0;pk0;k01;l12;l03;").widow(0, 1), 2));
@@ -968,6 +1033,42 @@ public final class QuestionsEdgesTest {
             due("people", x.count(0), 0);
             due("he who comes then is new", Edges.tell(x, "pk0;"), 1);
             Edges.same("state", Edges.stateOf(x), Edges.stateOf(townOf("pk0;")));
+        });
+        edge(words, "those who came behind it are nobody again", () -> {
+            EachLendsHisFace x = townOf("pk0;pk0;");
+            x.image();
+            Edges.tell(x, "pp0;pp0;l23;");
+            due("home", x.first(2), 12);
+            x.on();
+            due("person(2, 0)", x.person(2, 0), -1);
+            due("learns(0, 3)", x.learns(0, 3), -1);
+            due("lends(0, 2)", x.lends(0, 2), -1);
+            due("told", Edges.tell(x, "k02;"), -2000);
+            due("fewest", x.fewest(0, 51, 0), -9);
+        });
+        edge(words, "those who came behind it are in no pair", () -> {
+            EachLendsHisFace x = townOf("pm0;");
+            x.image();
+            Edges.tell(x, "pk0;");
+            x.on();
+            due("lot", x.lot(1), 50 - 24 - 12);
+        });
+        edge(words, "those who came behind it are not judged", () -> {
+            EachLendsHisFace x = townOf("pk0;pk0;");
+            x.image();
+            Edges.tell(x, "pk0;");
+            x.on();
+            due("judge", Edges.withRow(x, 0, 0, 0).judge(), 2);
+        });
+        edge(words, "of nobody: nobody draws lots", () -> {
+            EachLendsHisFace x = new EachLendsHisFace();
+            x.image();
+            Edges.tell(x, "pp0;pp0;");
+            due("of two", x.lots(1, 1, 1), 0);
+            x.on();
+            due("of nobody", x.lots(1, 1, 1), Edges.FAR + 3);
+            due("mean", x.mean(1), 1);
+            due("famous", x.famous(0), -9);
         });
         edge(words, "not the row", () -> {
             EachLendsHisFace x = townOf(town);

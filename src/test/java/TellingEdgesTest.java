@@ -49,6 +49,15 @@ public final class TellingEdgesTest {
                 due("count(" + what + ")", x.count(what), 0);
             }
         });
+        edge("An object is used for at most 512 calls after it has been made", "the 512th is answered as the first", () -> {
+            EachLendsHisFace x = new EachLendsHisFace();
+            for (int call = 1; call <= 255; call++) {
+                due("call " + (2 * call - 1), x.letter(-1), -4);
+                due("call " + 2 * call, x.image(), 0);
+            }
+            due("call 511", x.months(60), 0);
+            due("call 512", x.count(14), 255);
+        });
         edge("Nobody, MONTH 0.", "two objects are two towns", () -> {
             EachLendsHisFace x = townOf("pp0;m05;");
             EachLendsHisFace y = new EachLendsHisFace();
