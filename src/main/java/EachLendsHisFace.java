@@ -14,6 +14,7 @@ public final class EachLendsHisFace {
     private static final int KINDS = 6;
     private static final int PLAIN = 9;
     private static final int NONE = -9;
+    private static final int ALL_BUT_THE_SIGN = 0x7fffffff;
 
     private static final int NOBODY = -1;
     private static final int OTHER = -2;
@@ -610,7 +611,8 @@ public final class EachLendsHisFace {
         if (fault != 0) {
             return refuse(fault);
         }
-        if (now.worn[person] == PLAIN) {
+        int face = now.worn[person];
+        if (!now.isThere(face)) {
             return 0;
         }
         int bits = 0;
@@ -619,7 +621,7 @@ public final class EachLendsHisFace {
             mind.becomeLike(now);
             int[] changed = what == 0 ? mind.kind : mind.figure;
             changed[person] = way;
-            if (mindFits(now.worn[person])) {
+            if (mindFits(face)) {
                 bits |= 1 << way;
             }
         }
@@ -676,7 +678,7 @@ public final class EachLendsHisFace {
     }
 
     private static int drawBelow(int m, int z) {
-        return m <= 0 ? 0 : (z & Integer.MAX_VALUE) / 256 % m;
+        return m <= 0 ? 0 : (z & ALL_BUT_THE_SIGN) / 256 % m;
     }
 
     public int image() {
@@ -950,8 +952,13 @@ public final class EachLendsHisFace {
             return count;
         }
 
+        private boolean isKind(int its) {
+            return its >= 0 && its < kinds.length;
+        }
+
         int changeOfFame(int person, int face) {
-            return kinds[kind[person]].fameChange(figure[person], knowersOf(face));
+            int its = kind[person];
+            return isKind(its) ? kinds[its].fameChange(figure[person], knowersOf(face)) : 0;
         }
 
         void goOn(int months) {
@@ -968,8 +975,10 @@ public final class EachLendsHisFace {
 
         private void wearForAMonth(int person) {
             int face = worn[person];
-            if (face != PLAIN) {
-                Person his = kinds[kind[person]];
+            int its = kind[person];
+            // A plain face is nobody's, so it has no place in the rows.
+            if (isThere(face) && isKind(its)) {
+                Person his = kinds[its];
                 fame[face] = withinMarks(fame[face] + his.fameChange(figure[person], knowersOf(face)));
                 scars[face] = withinMarks(scars[face] + his.scarsMore(figure[person]));
             }
